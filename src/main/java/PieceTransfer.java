@@ -539,9 +539,9 @@ public final class PieceTransfer {
         private final int[] original = new int[MOST_BYTES];
         private final int[] flawed = new int[MOST_BYTES];
         private final int[] manifest = new int[MOST_PIECES];
-        /** One more than there are pieces: the end of the last one is the start of one behind. */
+        // of starts there is one more: where the last one ends, the next one would start
+        private final int[] pieceStarts = new int[MOST_PIECES + 1];
         private final int[] firstParts = new int[MOST_PIECES + 1];
-        /** One more than there are parts, likewise. */
         private final int[] partStarts = new int[MOST_PARTS + 1];
         private final int[] pieceOfPart = new int[MOST_PARTS];
         private final int[] partOfPlace = new int[MOST_BYTES];
@@ -566,6 +566,7 @@ public final class PieceTransfer {
         }
 
         private void addPiece(int start, int size, int partSize) {
+            put(pieceStarts, pieces, start);
             put(firstParts, pieces, parts);
             put(manifest, pieces, sumOf(original, start, size));
             for (int k = 0; k < size && k * partSize < size; k++) {
@@ -573,6 +574,7 @@ public final class PieceTransfer {
                 addPart(start + offset, Math.min(partSize, size - offset));
             }
             pieces++;
+            put(pieceStarts, pieces, start + size);
             put(firstParts, pieces, parts);
         }
 
@@ -624,11 +626,11 @@ public final class PieceTransfer {
         }
 
         int pieceStart(int piece) {
-            return partStart(firstPart(piece));
+            return at(pieceStarts, piece);
         }
 
         int pieceLength(int piece) {
-            return partStart(firstPart(piece + 1)) - pieceStart(piece);
+            return at(pieceStarts, piece + 1) - at(pieceStarts, piece);
         }
 
         /** Counts the pieces from the first one on that lie in these bytes and are good. */
