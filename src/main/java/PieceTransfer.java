@@ -563,6 +563,9 @@ public final class PieceTransfer {
                 int start = k * pieceSize;
                 addPiece(start, Math.min(pieceSize, length - start), partSize);
             }
+            put(pieceStarts, pieces, length);
+            put(firstParts, pieces, parts);
+            put(partStarts, parts, length);
         }
 
         private void addPiece(int start, int size, int partSize) {
@@ -574,8 +577,6 @@ public final class PieceTransfer {
                 addPart(start + offset, Math.min(partSize, size - offset));
             }
             pieces++;
-            put(pieceStarts, pieces, start + size);
-            put(firstParts, pieces, parts);
         }
 
         private void addPart(int start, int size) {
@@ -585,7 +586,6 @@ public final class PieceTransfer {
                 put(partOfPlace, place, parts);
             }
             parts++;
-            put(partStarts, parts, start + size);
         }
 
         void addFlaw(int place, int delta) {

@@ -55,8 +55,13 @@ public final class PartialFilesTest {
         y.fetch(1, 0);
         Check.equal("19: suspect ones too", 8, y.keep(999));
         Check.equal("19: no suspect any more", 0, y.count(6));
+        Check.equal("19: neither", 0, y.piece(0, 6));
+        Check.equal("19: nothing there", "...", Check.map(y));
         Check.equal("19: nothing was judged", "2:0:0 7:999:8", Check.latest(y, 2));
         Check.equal("19: its bytes", 1, y.partial(0, 3));
+        y.fetch(0, 0);
+        y.drop(0);
+        Check.equal("19: none is suspect twice", 0, y.count(6));
     }
 
     private static void keepingLimits() {
@@ -222,5 +227,13 @@ public final class PartialFilesTest {
         Check.noArgument("26: -1", () -> x.partial(0, -1));
         x.resume(2);
         Check.equal("26: numbers are lower", 4, x.partial(2, 0));
+        // byte 3 of source 0 is 0, so that its lack is not seen in the checksum
+        PieceTransfer y = Check.loaded("file 4 139 pieces 4 3;");
+        y.run(1);
+        y.drop(1);
+        y.keep(1);
+        Check.equal("26: byte 3", 0, y.sent(0, 3));
+        Check.equal("26: the checksums are the same", y.piece(0, 5), y.partial(0, 2));
+        Check.equal("26: the piece is not all in it", 0, y.partial(0, 4));
     }
 }

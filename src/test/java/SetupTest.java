@@ -16,6 +16,7 @@ public final class SetupTest {
         loadReplaces();
         goodTexts();
         syntaxErrors();
+        unexpectedEnds();
         valueErrors();
         tooMany();
         errorPositions();
@@ -58,6 +59,9 @@ public final class SetupTest {
         Check.equal("2: first", 20,
                 x.append(0x66696c65, 0x20352030, 0x20706965, 0x63657320, 0x3420343b));
         Check.equal("2: read", 2, x.load(20));
+        Check.equal("2: run", 1, x.run(300));
+        Check.equal("2: progress", 1.0f, x.progress());
+        Check.equal("2: undo", 1, x.undo());
         for (int k = 1; k <= 20; k++) {
             Check.equal("2: length", 20 * k, x.append(0, 0, 0, 0, 0));
         }
@@ -165,6 +169,8 @@ public final class SetupTest {
         bad("pieces", -2, 0);
         bad("fil", -2, 0);
         bad("files 1 0 pieces 4 4;", -2, 0);
+        bad("filea 1 0 pieces 4 4;", -2, 0);
+        bad("filez 1 0 pieces 4 4;", -2, 0);
         bad("File 1 0 pieces 4 4;", -2, 0);
         bad("fi le 1 0 pieces 4 4;", -2, 0);
         bad("file", -2, 4);
@@ -203,6 +209,23 @@ public final class SetupTest {
         bad(HEADER + "cut 0 1 cut 0 1;", -2, 28);
         bad(HEADER + "blame;", -2, 25);
         bad(HEADER + "blame 1 2;", -2, 28);
+    }
+
+    /** What stands behind the length in the buffer is no part of the text. */
+    private static void unexpectedEnds() {
+        for (int length = 0; length < HEADER.length(); length++) {
+            PieceTransfer x = new PieceTransfer();
+            Check.append(x, HEADER);
+            int answer = x.load(length);
+            Check.equal("3: the first " + length + " bytes", -2, answer);
+            // a part of a word is a word that is not allowed, at its first byte
+            int where = length < 4 ? 0 : length > 9 && length < 15 ? 9 : length;
+            Check.equal("4: the first " + length + " bytes", where, x.errorPosition());
+        }
+        PieceTransfer y = new PieceTransfer();
+        Check.append(y, "file 99 0 pieces 4 4;blame 45;");
+        Check.equal("3: half a number", -2, y.load(28));
+        Check.equal("4: behind it", 28, y.errorPosition());
     }
 
     private static void valueErrors() {
@@ -362,6 +385,13 @@ public final class SetupTest {
                         x.piece(piece, what));
             }
         }
+        PieceTransfer y = Check.loaded("file 240 0 pieces 4 1;");
+        Check.equal("9: start of the last of 60", 236, y.piece(59, 0));
+        Check.equal("9: length of the last of 60", 4, y.piece(59, 1));
+        Check.equal("9: first part of the last of 60", 236, y.piece(59, 2));
+        Check.equal("9: parts of the last of 60", 4, y.piece(59, 3));
+        Check.equal("9: length of the one before", 4, y.piece(58, 1));
+        Check.equal("10: the last of 240", 1, y.part(239, 1));
         x.fetch(1, 0);
         Check.equal("9: none missing", 0, x.piece(0, 4));
         Check.equal("9: suspect", 2, x.piece(0, 6));

@@ -16,6 +16,7 @@ public final class TellingTest {
         undoingAll();
         undoingEachChange();
         undoLeavesTexts();
+        undoingEverything();
         Check.end();
     }
 
@@ -36,6 +37,8 @@ public final class TellingTest {
     private static void differingParts() {
         Check.equal("28: one", 1, Check.loaded(TEXT).differingParts());
         Check.equal("28: none", 0, new PieceTransfer().differingParts());
+        Check.equal("28: the first one", 1, Check.loaded(
+                "file 20 3 pieces 8 3; flaw 0 1;").differingParts());
         Check.equal("28: two flaws of one part", 2, Check.loaded("file 20 3 pieces 8 3;"
                 + "flaw 3 1; flaw 5 1; flaw 19 1;").differingParts());
         Check.equal("28: flaws that make up for each other", 0, Check.loaded(
@@ -62,6 +65,9 @@ public final class TellingTest {
         PieceTransfer y = Check.loaded("file 7 0 pieces 4 4;");
         y.fetch(0, 1);
         Check.equal("29: 3 of 7", 3.0f / 7.0f, y.progress());
+        PieceTransfer z = new PieceTransfer();
+        z.run(1);
+        Check.equal("29: the only byte", 1.0f, z.progress());
     }
 
     private static void events() {
@@ -242,6 +248,113 @@ public final class TellingTest {
         Check.equal("34: not banned", 0, b.source(1, 1));
         Check.equal("34: no blame", 0, b.source(1, 3));
         Check.isTrue("34: connected", b.connect(1, true));
+    }
+
+    /** All that can be told of the state. */
+    private static String all(PieceTransfer x) {
+        StringBuilder all = new StringBuilder();
+        for (int what = 0; what <= 11; what++) {
+            all.append(x.count(what)).append(' ');
+        }
+        for (int source = 0; source < 2; source++) {
+            for (int what = 0; what <= 4; what++) {
+                all.append(x.source(source, what)).append(' ');
+            }
+        }
+        for (int place = 0; place < x.count(0); place++) {
+            all.append(x.sent(1, place)).append(' ').append(x.got(place)).append(' ');
+        }
+        for (int piece = 0; piece < x.count(1); piece++) {
+            all.append(x.piece(piece, 4)).append(' ').append(x.piece(piece, 6)).append(' ');
+        }
+        for (int part = 0; part < x.count(2); part++) {
+            all.append(x.part(part, 3)).append(' ');
+        }
+        for (int partial = 0; partial < x.count(8); partial++) {
+            for (int what = 0; what <= 4; what++) {
+                all.append(x.partial(partial, what)).append(' ');
+            }
+        }
+        all.append(Check.latest(x, Math.min(40, x.count(9)))).append(' ').append(x.ticksLeft());
+        return all.toString();
+    }
+
+    /** Makes the change of this number; all of them together succeed in any order of rounds. */
+    private static void change(PieceTransfer x, int number) {
+        switch (number) {
+            case 0:
+                Check.load(x, TEXT + "blame 1;");
+                break;
+            case 1:
+                x.fetch(1, 0);
+                break;
+            case 2:
+                x.search(0);
+                break;
+            case 3:
+                x.fetch(0, 1);
+                break;
+            case 4:
+                x.fetch(0, 0);
+                break;
+            case 5:
+                x.keep(4);
+                break;
+            case 6:
+                x.spoil(0, 1, 1);
+                break;
+            case 7:
+                x.rename(0, 2);
+                break;
+            case 8:
+                x.resume(0);
+                break;
+            case 9:
+                x.drop(1);
+                break;
+            case 10:
+                x.run(3);
+                break;
+            case 11:
+                x.connect(0, false);
+                break;
+            case 12:
+                x.keep(3);
+                break;
+            case 13:
+                x.discard(0);
+                break;
+            default:
+                Check.load(x, "file 9 1 pieces 4 2; flaw 3 2; flaw 8 1;");
+                x.run(2);
+        }
+    }
+
+    private static void undoingEverything() {
+        PieceTransfer x = new PieceTransfer();
+        for (int number = 0; number < 45; number++) {
+            String before = all(x);
+            Check.equal("34: asking again", before, all(x));
+            change(x, number % 15);
+            String behind = all(x);
+            Check.isTrue("34: change " + number, !before.equals(behind));
+            x.undo();
+            if (number % 15 == 14) {
+                x.undo();
+            }
+            Check.equal("34: undone " + number, before, all(x));
+            change(x, number % 15);
+            Check.equal("34: done again " + number, behind, all(x));
+        }
+        String[] states = new String[9];
+        for (int k = 0; k < 9; k++) {
+            states[k] = all(x);
+            change(x, k);
+        }
+        for (int k = 8; k >= 1; k--) {
+            Check.equal("34: left", k - 1, x.undo());
+            Check.equal("34: state " + k, states[k], all(x));
+        }
     }
 
     private static void undoLeavesTexts() {

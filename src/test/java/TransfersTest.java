@@ -9,6 +9,7 @@ public final class TransfersTest {
         connecting();
         fetching();
         breaking();
+        manyBreaksAndCuts();
         cutting();
         searching();
         searchingSmallPieces();
@@ -88,6 +89,34 @@ public final class TransfersTest {
         x.drop(0);
         x.fetch(0, 0);
         Check.equal("13: the fifth one is not broken", 0, x.part(0, 4));
+        PieceTransfer y = Check.loaded("file 8 0 pieces 8 2; flaw 2 5; break 5 2 9;");
+        y.fetch(0, 0);
+        y.drop(0);
+        y.fetch(1, 0);
+        Check.equal("13: the flaw of the part behind it", 74, y.got(2));
+        Check.equal("13: nor a break at an offset of just its length", 0, y.wrongBytes());
+    }
+
+    private static void manyBreaksAndCuts() {
+        StringBuilder breaks = new StringBuilder("file 12 0 pieces 12 1;");
+        for (int k = 1; k <= 12; k++) {
+            breaks.append("break ").append(k).append(" 0 ").append(k).append(';');
+        }
+        PieceTransfer x = Check.loaded(breaks.toString());
+        x.fetch(0, 0);
+        for (int place = 0; place < 12; place++) {
+            Check.equal("13: break " + place, x.sent(0, place) + place + 1, x.got(place));
+        }
+        StringBuilder cuts = new StringBuilder("file 12 0 pieces 12 1;");
+        for (int k = 1; k <= 8; k++) {
+            cuts.append("cut 1 ").append(k).append(';');
+        }
+        PieceTransfer y = Check.loaded(cuts.toString());
+        for (int k = 1; k <= 8; k++) {
+            Check.equal("13: cut " + k, 1, y.fetch(1, 0));
+            y.connect(1, true);
+        }
+        Check.equal("13: no ninth one", 4, y.fetch(1, 0));
     }
 
     private static void cutting() {
@@ -323,6 +352,7 @@ public final class TransfersTest {
         // one tick searches only, the next one brings the part again
         Check.equal("17: a tick that only searches", 1, x.run(1));
         Check.equal("17: dropped", "3:0:1", Check.latest(x, 1));
+        Check.equal("17: no transfer", 6, x.count(3));
         Check.equal("17: and again", 1, x.run(9));
         Check.equal("17: good", 3, x.count(5));
         PieceTransfer y = Check.loaded("file 12 0 pieces 4 2;");
@@ -384,6 +414,10 @@ public final class TransfersTest {
         z.run(300);
         Check.equal("18: 102", 102, z.ticksLeft());
         Check.equal("18: again", 102, z.ticksLeft());
+        Check.load(z, "file 12 0 pieces 4 2;");
+        Check.equal("18: of another text", 3, z.ticksLeft());
+        z.undo();
+        Check.equal("18: of the first one", 102, z.ticksLeft());
         Check.equal("18: run", 102, z.run(300));
     }
 }
