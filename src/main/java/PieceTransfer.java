@@ -235,7 +235,7 @@ public final class PieceTransfer {
     public int queriesFor(int piece) throws IndexOutOfBoundsException, NoSuchElementException {
         needIndex(piece, now.plan.pieces);
         needElement(now.isSuspect(piece));
-        return now.searchRange(now.plan.firstPart(piece), now.plan.partsOf(piece), false, 0);
+        return now.queriesNeeded(piece);
     }
 
     /** Makes a present part missing; returns its origin before. */
@@ -443,9 +443,11 @@ public final class PieceTransfer {
     /** Undoes the latest change; returns the number of changes that can still be undone. */
     public int undo() throws IllegalStateException {
         int latest = (nextPast + MOST_CHANGES - 1) % MOST_CHANGES;
-        Download before = past[latest];
-        needState(undoable > 0 && before != null);
-        past[latest] = now;
+        Download before = pastAt(latest);
+        if (undoable <= 0 || before == null) {
+            throw new IllegalStateException("there is no change to undo");
+        }
+        putPast(latest, now);
         now = before;
         nextPast = latest;
         undoable--;
@@ -454,12 +456,24 @@ public final class PieceTransfer {
 
     /** Puts the state aside, so that the change that comes next can be undone. */
     private void remember() {
-        if (past[nextPast] == null) {
-            past[nextPast] = new Download(now.plan);
+        Download row = pastAt(nextPast);
+        if (row == null) {
+            row = new Download(now.plan);
+            putPast(nextPast, row);
         }
-        past[nextPast].copyFrom(now);
+        row.copyFrom(now);
         nextPast = (nextPast + 1) % MOST_CHANGES;
         undoable = Math.min(undoable + 1, MOST_CHANGES);
+    }
+
+    private Download pastAt(int slot) {
+        return slot >= 0 && slot < past.length ? past[slot] : null;
+    }
+
+    private void putPast(int slot, Download state) {
+        if (slot >= 0 && slot < past.length) {
+            past[slot] = state;
+        }
     }
 
     // ---- tests of arguments
@@ -1109,8 +1123,12 @@ public final class PieceTransfer {
             return asked;
         }
 
+        int queriesNeeded(int piece) {
+            return searchRange(plan.firstPart(piece), plan.partsOf(piece), false, 0);
+        }
+
         /** Searches a range of parts, or only counts the queries; returns their number. */
-        int searchRange(int first, int size, boolean dropping, int depth) {
+        private int searchRange(int first, int size, boolean dropping, int depth) {
             if (size <= 1 || depth > DEEPEST_SEARCH) {
                 if (dropping) {
                     dropWrong(first);

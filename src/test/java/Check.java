@@ -3,12 +3,11 @@ import java.util.Arrays;
 import java.util.NoSuchElementException;
 
 /** Counts and prints the answers of a test that are not the due ones. */
-final class Check {
+class Check {
+    /** What the checks are about; it stands in front of every complaint. */
+    static String about = "";
     private static int checks = 0;
     private static int wrong = 0;
-
-    private Check() {
-    }
 
     interface Call {
         Object make();
@@ -58,7 +57,10 @@ final class Check {
         fails(what, NoSuchElementException.class, call);
     }
 
-    /** The very class is asked for, so that a subclass that the machine throws does not pass. */
+    /**
+     * The very class is asked for, so that a subclass that the machine throws does not pass, and
+     * the program's own throw, so that neither does one that the library throws.
+     */
     private static void fails(String what, Class<? extends RuntimeException> kind, Call call) {
         checks++;
         try {
@@ -67,12 +69,20 @@ final class Check {
             if (e.getClass() != kind) {
                 complain(what + " threw " + e + ", due is " + kind.getSimpleName());
             }
+            StackTraceElement[] trace = e.getStackTrace();
+            if (trace.length == 0 || !trace[0].getClassName().startsWith("PieceTransfer")) {
+                complain(what + " threw " + e + ", but not by a throw of its own");
+            }
         }
     }
 
     static void complain(String message) {
         wrong++;
-        System.out.println(message);
+        System.out.println(about + message);
+    }
+
+    static int checks() {
+        return checks;
     }
 
     /** Appends a text, filled up with spaces to a multiple of 20 bytes. */
@@ -123,6 +133,67 @@ final class Check {
                     .append(x.event(back, 2)).append(back == 0 ? "" : " ");
         }
         return story.toString();
+    }
+
+    /** All that a change may change, in about 100 calls if L and the audit are small. */
+    static String state(PieceTransfer x) {
+        StringBuilder all = new StringBuilder();
+        for (int what = 0; what <= 11; what++) {
+            all.append(x.count(what)).append(' ');
+        }
+        for (int source = 0; source < 2; source++) {
+            for (int what = 0; what <= 4; what++) {
+                all.append(x.source(source, what)).append(' ');
+            }
+            all.append(x.checksum(source, 0, x.count(0))).append(' ');
+        }
+        for (int place = 0; place < x.count(0); place++) {
+            all.append(x.got(place)).append(' ');
+        }
+        for (int piece = 0; piece < x.count(1); piece++) {
+            all.append(x.piece(piece, 6)).append(' ');
+        }
+        for (int part = 0; part < x.count(2); part++) {
+            all.append(x.part(part, 3)).append(' ');
+        }
+        for (int partial = 0; partial < x.count(8); partial++) {
+            for (int what = 0; what <= 2; what++) {
+                all.append(x.partial(partial, what)).append(' ');
+            }
+        }
+        all.append(latest(x, Math.min(40, x.count(9)))).append(' ').append(x.ticksLeft());
+        return all.toString();
+    }
+
+    /** What a refused call would most likely change, in few calls. */
+    static String glance(PieceTransfer x) {
+        StringBuilder some = new StringBuilder();
+        for (int what = 3; what <= 10; what++) {
+            some.append(x.count(what)).append(' ');
+        }
+        for (int source = 0; source < 2; source++) {
+            for (int what = 0; what <= 3; what++) {
+                some.append(x.source(source, what)).append(' ');
+            }
+        }
+        for (int partial = 0; partial < x.count(8); partial++) {
+            some.append(x.partial(partial, 0)).append(' ');
+            some.append(x.partial(partial, 2)).append(' ');
+        }
+        return some.append(x.wrongBytes()).append(' ').append(x.errorPosition()).toString();
+    }
+
+    /** What was written last; how long it is can be told by the refusal alone. */
+    static String written(PieceTransfer x) {
+        StringBuilder text = new StringBuilder();
+        try {
+            while (text.length() < 1000) {
+                text.append((char) x.writtenByte(text.length()));
+            }
+        } catch (IndexOutOfBoundsException e) {
+            return text.toString();
+        }
+        return text.append("... without an end").toString();
     }
 
     static void end() {

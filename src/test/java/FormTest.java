@@ -9,7 +9,9 @@ import java.util.ArrayList;
 import java.util.Arrays;
 import java.util.Collections;
 import java.util.List;
+import java.util.Map;
 import java.util.Set;
+import java.util.TreeMap;
 import java.util.TreeSet;
 import java.util.regex.Matcher;
 import java.util.regex.Pattern;
@@ -64,6 +66,7 @@ public final class FormTest {
         forbidden(code);
         imports(code);
         sizes(code);
+        depths(code);
         Check.end();
     }
 
@@ -203,16 +206,58 @@ public final class FormTest {
         String[] lines = code.split("\n", -1);
         for (int k = 0; k < lines.length; k++) {
             Check.isTrue("line " + (k + 1) + " is short", lines[k].length() <= 100);
-            Matcher m = Pattern.compile("( {4}| {8})[A-Za-z<].*").matcher(lines[k]);
-            if (m.matches() && lines[k].contains("(") && !lines[k].contains("=")
-                    && !lines[k].endsWith(";")) {
-                int end = k;
-                while (end < lines.length && !lines[end].equals(m.group(1) + "}")) {
-                    end++;
-                }
+            Matcher m = beginOfMethod(lines[k]);
+            if (m != null) {
+                int end = endOfMethod(lines, k, m.group(1));
                 Check.isTrue("11: line " + (k + 1) + " begins a method of "
                         + (end - k + 1) + " lines", end - k < 60);
             }
         }
+    }
+
+    /** Returns null if none begins here. */
+    private static Matcher beginOfMethod(String line) {
+        Matcher m = Pattern.compile("( {4}| {8})[A-Za-z<][^=(]*?(\\w+)\\(.*").matcher(line);
+        return m.matches() && !line.contains("=") && !line.endsWith(";") ? m : null;
+    }
+
+    private static int endOfMethod(String[] lines, int begin, String indent) {
+        int end = begin;
+        while (end < lines.length && !lines[end].equals(indent + "}")) {
+            end++;
+        }
+        return end;
+    }
+
+    /** Methods are told apart by their names; those of one name count as one. */
+    private static void depths(String code) {
+        String[] lines = code.split("\n", -1);
+        Map<String, String> bodies = new TreeMap<>();
+        for (int k = 0; k < lines.length; k++) {
+            Matcher m = beginOfMethod(lines[k]);
+            if (m != null) {
+                int end = endOfMethod(lines, k, m.group(1));
+                String body = String.join("\n", Arrays.asList(lines).subList(k + 1, end));
+                bodies.merge(m.group(2), body, String::concat);
+            }
+        }
+        Check.isTrue("11: the methods are found", bodies.size() > FACE.length);
+        for (String name : bodies.keySet()) {
+            int deep = depth(name, bodies, new TreeSet<>());
+            Check.isTrue("11: calls from " + name + " go " + deep + " deep", deep <= 8);
+        }
+    }
+
+    private static int depth(String name, Map<String, String> bodies, Set<String> open) {
+        open.add(name);
+        int deepest = 0;
+        Matcher m = Pattern.compile("\\b(\\w+)\\(").matcher(bodies.get(name));
+        while (m.find()) {
+            if (bodies.containsKey(m.group(1)) && !open.contains(m.group(1))) {
+                deepest = Math.max(deepest, depth(m.group(1), bodies, open));
+            }
+        }
+        open.remove(name);
+        return 1 + deepest;
     }
 }

@@ -9,8 +9,9 @@ import java.util.Random;
 
 /** Compares the program with the model in many random runs of 512 calls; the seeds are fixed. */
 public final class ModelTest {
-    private static final int RUNS = 1500;
-    private static final int CALLS = 1500;
+    private static final int RUNS = 4000;
+    /** Of one object no more is promised. */
+    private static final int CALLS = 512;
 
     private final Random random;
     private final PieceTransfer program = new PieceTransfer();
@@ -97,44 +98,44 @@ public final class ModelTest {
             case "load": return random.nextInt(50);
             case "count": return random.nextInt(13);
             case "source": return random.nextInt(k == 0 ? 2 : 6);
-            case "sent": return k == 0 ? random.nextInt(2) : below(program.count(0));
-            case "got": return below(program.count(0));
-            case "piece": return k == 0 ? below(program.count(1)) : random.nextInt(8);
-            case "part": return k == 0 ? below(program.count(2)) : random.nextInt(6);
-            case "checksum": return k == 0 ? random.nextInt(2) : k == 1 ? below(program.count(0))
-                    : 1 + random.nextInt(Math.max(1, program.count(0) - (Integer) before[1]));
+            case "sent": return k == 0 ? random.nextInt(2) : below(model.count(0));
+            case "got": return below(model.count(0));
+            case "piece": return k == 0 ? below(model.count(1)) : random.nextInt(8);
+            case "part": return k == 0 ? below(model.count(2)) : random.nextInt(6);
+            case "checksum": return k == 0 ? random.nextInt(2) : k == 1 ? below(model.count(0))
+                    : 1 + random.nextInt(Math.max(1, model.count(0) - (Integer) before[1]));
             case "connect": return random.nextInt(2);
-            case "fetch": return k == 0 ? random.nextInt(2) : below(program.count(1));
+            case "fetch": return k == 0 ? random.nextInt(2) : below(model.count(1));
             case "search": case "queriesFor": return suspect();
-            case "drop": return below(program.count(2));
+            case "drop": return below(model.count(2));
             case "run": return random.nextInt(3) == 0 ? 1 + random.nextInt(300)
                     : 1 + random.nextInt(6);
             case "keep": return random.nextInt(4);
-            case "resume": case "discard": return below(program.count(8));
+            case "resume": case "discard": return below(model.count(8));
             case "named": return random.nextInt(5);
-            case "sized": return program.count(8) > 0 && random.nextBoolean()
-                    ? program.partial(random.nextInt(program.count(8)), 1) : random.nextInt(50);
-            case "rename": return k == 0 ? below(program.count(8)) : random.nextInt(4);
-            case "spoil": return k == 0 ? below(program.count(8)) : k == 1
+            case "sized": return model.count(8) > 0 && random.nextBoolean()
+                    ? model.partial(random.nextInt(model.count(8)), 1) : random.nextInt(50);
+            case "rename": return k == 0 ? below(model.count(8)) : random.nextInt(4);
+            case "spoil": return k == 0 ? below(model.count(8)) : k == 1
                     ? random.nextInt(30) : random.nextInt(258);
-            case "partial": return k == 0 ? below(program.count(8)) : random.nextInt(6);
-            case "event": return k == 0 ? below(Math.min(40, program.count(9)))
+            case "partial": return k == 0 ? below(model.count(8)) : random.nextInt(6);
+            case "event": return k == 0 ? below(Math.min(40, model.count(9)))
                     : random.nextInt(4);
             case "events": return random.nextInt(10);
-            case "writtenByte": return below(program.count(1));
+            case "writtenByte": return below(model.count(1));
             default: return random.nextInt(10);
         }
     }
 
     private int suspect() {
-        int start = random.nextInt(program.count(1));
-        for (int k = 0; k < program.count(1); k++) {
-            int piece = (start + k) % program.count(1);
-            if (program.piece(piece, 6) == 2) {
+        int start = random.nextInt(model.count(1));
+        for (int k = 0; k < model.count(1); k++) {
+            int piece = (start + k) % model.count(1);
+            if (model.piece(piece, 6) == 2) {
                 return piece;
             }
         }
-        return below(program.count(1));
+        return below(model.count(1));
     }
 
     /** Now and then just at the bound or below 0. */
@@ -259,16 +260,16 @@ public final class ModelTest {
                 call("source", source, what);
             }
         }
-        for (int place = 0; place < program.count(0); place += 1 + random.nextInt(9)) {
+        for (int place = 0; place < model.count(0); place += 1 + random.nextInt(9)) {
             call("got", place);
         }
-        for (int piece = 0; piece < program.count(1); piece++) {
+        for (int piece = 0; piece < model.count(1); piece++) {
             call("piece", piece, 6);
         }
         for (int back = 0; back < 41; back++) {
             call("event", back, random.nextInt(3));
         }
-        for (int partial = 0; partial <= program.count(8); partial++) {
+        for (int partial = 0; partial <= model.count(8); partial++) {
             call("partial", partial, random.nextInt(5));
         }
         call("wrongBytes");
@@ -287,7 +288,7 @@ public final class ModelTest {
     }
 
     private void call(Method m, Object[] arguments) throws Exception {
-        if (!same) {
+        if (!same || story.size() == CALLS) {
             return;
         }
         String want = answer(Model.class.getMethod(m.getName(), m.getParameterTypes()), model,

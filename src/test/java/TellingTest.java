@@ -250,35 +250,6 @@ public final class TellingTest {
         Check.isTrue("34: connected", b.connect(1, true));
     }
 
-    /** All that can be told of the state. */
-    private static String all(PieceTransfer x) {
-        StringBuilder all = new StringBuilder();
-        for (int what = 0; what <= 11; what++) {
-            all.append(x.count(what)).append(' ');
-        }
-        for (int source = 0; source < 2; source++) {
-            for (int what = 0; what <= 4; what++) {
-                all.append(x.source(source, what)).append(' ');
-            }
-        }
-        for (int place = 0; place < x.count(0); place++) {
-            all.append(x.sent(1, place)).append(' ').append(x.got(place)).append(' ');
-        }
-        for (int piece = 0; piece < x.count(1); piece++) {
-            all.append(x.piece(piece, 4)).append(' ').append(x.piece(piece, 6)).append(' ');
-        }
-        for (int part = 0; part < x.count(2); part++) {
-            all.append(x.part(part, 3)).append(' ');
-        }
-        for (int partial = 0; partial < x.count(8); partial++) {
-            for (int what = 0; what <= 4; what++) {
-                all.append(x.partial(partial, what)).append(' ');
-            }
-        }
-        all.append(Check.latest(x, Math.min(40, x.count(9)))).append(' ').append(x.ticksLeft());
-        return all.toString();
-    }
-
     /** Makes the change of this number; all of them together succeed in any order of rounds. */
     private static void change(PieceTransfer x, int number) {
         switch (number) {
@@ -330,30 +301,38 @@ public final class TellingTest {
         }
     }
 
-    private static void undoingEverything() {
+    /** A new object behind the first of the changes. */
+    private static PieceTransfer changed(int changes) {
         PieceTransfer x = new PieceTransfer();
-        for (int number = 0; number < 45; number++) {
-            String before = all(x);
-            Check.equal("34: asking again", before, all(x));
-            change(x, number % 15);
-            String behind = all(x);
-            Check.isTrue("34: change " + number, !before.equals(behind));
+        for (int number = 0; number < changes; number++) {
+            change(x, number);
+        }
+        return x;
+    }
+
+    private static void undoingEverything() {
+        for (int number = 0; number < 15; number++) {
+            PieceTransfer asked = changed(number);
+            String before = Check.state(asked);
+            Check.equal("34: asking again", before, Check.state(asked));
+            PieceTransfer x = changed(number);
+            change(x, number);
             x.undo();
-            if (number % 15 == 14) {
+            if (number == 14) {
                 x.undo();
             }
-            Check.equal("34: undone " + number, before, all(x));
-            change(x, number % 15);
-            Check.equal("34: done again " + number, behind, all(x));
+            Check.equal("34: undone " + number, before, Check.state(x));
+            change(x, number);
+            String behind = Check.state(changed(number + 1));
+            Check.equal("34: done again " + number, behind, Check.state(x));
+            Check.isTrue("34: change " + number, !before.equals(behind));
         }
-        String[] states = new String[9];
-        for (int k = 0; k < 9; k++) {
-            states[k] = all(x);
-            change(x, k);
-        }
-        for (int k = 8; k >= 1; k--) {
-            Check.equal("34: left", k - 1, x.undo());
-            Check.equal("34: state " + k, states[k], all(x));
+        for (int undone = 1; undone <= 8; undone++) {
+            PieceTransfer x = changed(14);
+            for (int k = 1; k <= undone; k++) {
+                Check.equal("34: left", 8 - k, x.undo());
+            }
+            Check.equal("34: state " + undone, Check.state(changed(14 - undone)), Check.state(x));
         }
     }
 
