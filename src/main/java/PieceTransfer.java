@@ -60,7 +60,7 @@ public final class PieceTransfer {
     private final int[] written = new int[MOST_PIECES];
     private int writtenLength = 0;
     private Download now;
-    /** A ring of earlier states; its rows are made when they are first needed and then used again. */
+    /** A ring of earlier states; its rows are made when first needed and then used again. */
     private final Download[] past = new Download[MOST_CHANGES];
     private int nextPast = 0;
     private int undoable = 0;
