@@ -645,6 +645,14 @@ final class TermSentences extends Sentences {
             equal("not banned again", "6:1:3 3:4:1", latest(x, 2));
             equal("more blame", 4, x.source(1, 3));
             highestLimit();
+            PieceTransfer more = flawed("file 4 0 pieces 4 2;flaw 0 1;flaw 2 1;blame 1;");
+            more.search(0);
+            equal("more than the limit in one search", 1, more.source(1, 1));
+            PieceTransfer off = flawed("file 4 0 pieces 4 4;flaw 0 1;blame 1;");
+            off.connect(1, false);
+            off.search(0);
+            equal("also when it is not connected", 1, off.source(1, 1));
+            equal("with the event", "3:0:1 6:1:1", latest(off, 2));
             PieceTransfer z = loaded("file 4 0 pieces 4 4;break 1 0 1;blame 1;");
             z.fetch(0, 0);
             z.search(0);
