@@ -351,7 +351,7 @@ public final class PieceTransfer {
             case 1: return kept.bytes.length;
             case 2: return sumOf(kept.bytes, 0, kept.bytes.length);
             case 3: return differences(kept.bytes, now.plan.original, 0, kept.bytes.length);
-            case 4: return now.plan.goodPiecesOf(kept.bytes);
+            case 4: return now.plan.leadingGoodPieces(kept.bytes);
             default: throw new IllegalArgumentException("what is not 0 to 4");
         }
     }
@@ -647,8 +647,7 @@ public final class PieceTransfer {
             return at(pieceStarts, piece + 1) - at(pieceStarts, piece);
         }
 
-        /** Counts the pieces from the first one on that lie in these bytes and are good. */
-        int goodPiecesOf(int[] bytes) {
+        int leadingGoodPieces(int[] bytes) {
             for (int piece = 0; piece < pieces; piece++) {
                 int start = pieceStart(piece);
                 int size = pieceLength(piece);
@@ -776,7 +775,7 @@ public final class PieceTransfer {
             }
         }
 
-        /** Goes behind the word if it stands here, and no letter right behind it. */
+        /** A letter right behind the word would make it a longer and thus another one. */
         private boolean isTaken(String word) {
             int size = word.length();
             for (int k = 0; k < size; k++) {
@@ -792,7 +791,7 @@ public final class PieceTransfer {
             return true;
         }
 
-        /** Returns the lowest number allowed if there is an error. */
+        /** With an error the lowest number stands in, so that no caller has to stop at once. */
         private int takeNumber(int lowest, int highest) {
             skipSpaces();
             int start = position;
@@ -900,7 +899,6 @@ public final class PieceTransfer {
             this.plan = plan;
         }
 
-        /** Starts anew with another plan. */
         void begin(Plan next) {
             plan = next;
             transfers = 0;
@@ -971,7 +969,6 @@ public final class PieceTransfer {
             return differences(bytes, plan.original, plan.partStart(part), plan.partLength(part));
         }
 
-        /** Makes ticks until the file is finished or nothing is left to be done. */
         int makeTicks(int most) {
             for (int ticks = 0; ticks < most; ticks++) {
                 if (isFinished() || !makeTick()) {
@@ -1032,7 +1029,6 @@ public final class PieceTransfer {
             return arrived;
         }
 
-        /** One transfer: a missing part arrives from a connected source. */
         private void receive(int part, int source) {
             transfers++;
             putPart(part, plan.bytesOf(source), source);
@@ -1084,7 +1080,6 @@ public final class PieceTransfer {
             }
         }
 
-        /** Makes a present part missing. */
         void lose(int part) {
             int piece = at(plan.pieceOfPart, part);
             if (at(verdicts, piece) == GOOD) {
@@ -1109,7 +1104,6 @@ public final class PieceTransfer {
             suspectPieces = 0;
         }
 
-        /** Searches a suspect piece; returns the number of queries. */
         int searchPiece(int piece) {
             int first = plan.firstPart(piece);
             int size = plan.partsOf(piece);
@@ -1180,7 +1174,6 @@ public final class PieceTransfer {
             }
         }
 
-        /** Makes a partial file of the parts before the first missing one; returns its length. */
         int keepArrived(int name) {
             int behind = missingParts == 0 ? plan.length : plan.partStart(lowestMissing());
             int[] arrived = Arrays.copyOf(bytes, Math.max(behind, 0));
@@ -1190,7 +1183,7 @@ public final class PieceTransfer {
             return arrived.length;
         }
 
-        /** Makes the parts present that lie in a partial file; none is present before. */
+        /** No part is present before, so that each piece is judged at most once here. */
         void takeUp(Partial kept) {
             for (int part = 0; part < plan.parts; part++) {
                 if (plan.partStart(part) + plan.partLength(part) <= kept.bytes.length) {
